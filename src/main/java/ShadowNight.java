@@ -1453,8 +1453,8 @@ public final class ShadowNight {
         boolean areSure() {
             emptyQueue();
             for (int a = 0; a < SIGNS; a++) {
-                for (int b = 0; b < SIGNS; b++) {
-                    if (a != b && sizes[b] > 0 && !follow(a, 0, b)) {
+                for (int b = a + 1; b < SIGNS; b++) {
+                    if (sizes[b] > 0 && !follow(a, 0, b)) {
                         return false;
                     }
                 }

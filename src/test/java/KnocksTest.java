@@ -56,6 +56,7 @@ public final class KnocksTest {
         EXPECT.due("row -8", x.knock(0, -8), BAD);
         Expect.lay(x, 0, 1);
         x.knock(3, 0);
+        EXPECT.due("count(4), one of one knock", x.count(4), 2);
         x.lay(0, 0, 0);
         x.moment(0, 5, 0, 3, 0);
         EXPECT.due("the sign does not follow the ROW", withSigns("0", "", "", "1").clear(), NONE);

@@ -10,6 +10,7 @@ public final class MomentsTest {
         seen();
         broken();
         mistaken();
+        allForty();
         EXPECT.end();
     }
 
@@ -188,6 +189,25 @@ public final class MomentsTest {
         EXPECT.due("asked() stays", x.asked(), 0);
     }
 
+    private static void allForty() {
+        ShadowNight x = withHides(1, 2);
+        for (int m = 0; m < 40; m++) {
+            x.moment(m, m % 2 == 0 ? 1 : 6, 0, m % 2, 0);
+        }
+        EXPECT.due("behind", x.seen(0, true), 40);
+        EXPECT.due("before", x.seen(0, false), 20);
+        EXPECT.due("broken", x.broken(0, 0, 40), 20);
+        EXPECT.due("the first", x.asked(), 0);
+        EXPECT.due("the last", x.broken(0, 38, 1), 1);
+        EXPECT.due("the last", x.asked(), 38);
+        EXPECT.due("mistaken", x.mistaken(), 0);
+        EXPECT.due("HELD ones", x.count(6), 20);
+        EXPECT.asks(x, "told(39, 1)", x.told(39, 1), 39);
+        EXPECT.due("told(40, 1)", x.told(40, 1), BAD);
+        EXPECT.due("mark(39, 6)", x.mark(39, 6), 1);
+        EXPECT.due("mark(40, 6)", x.mark(40, 6), BAD);
+    }
+
     private static void mistaken() {
         ShadowNight x = withHides(1, 2, 3);
         EXPECT.due("none", x.mistaken(), 0);
@@ -209,6 +229,12 @@ public final class MomentsTest {
         EXPECT.due("SPOKEN ones only", x.mistaken(), 4);
         x.drop(0);
         EXPECT.due("whether HIDES are there or not", x.mistaken(), 4);
+        ShadowNight z = withHides(1, 2);
+        z.moment(1, 6, 0, 1, 0);
+        z.moment(1, 6, 1, 2, 0);
+        z.moment(1, 6, 0, 1, 0);
+        EXPECT.due("each in its own voice", z.mistaken(), 0);
+        EXPECT.due("asked()", z.asked(), NONE);
         ShadowNight y = withHides(1, 2);
         y.moment(1, 6, 0, 1, 0);
         y.moment(2, 6, 0, 2, 0);

@@ -161,6 +161,8 @@ public final class StoriesTest {
         EXPECT.due("two at most", x.third(), NONE);
         Expect.tell(x, "ab1/ABch1/abc1");
         EXPECT.due("four", x.third(), 1);
+        Expect.tell(x, "abc1/ab1");
+        EXPECT.due("the first of all", x.third(), 0);
         Expect.tell(x, "ab1/1/abC1");
         EXPECT.due("three", x.third(), 2);
     }
