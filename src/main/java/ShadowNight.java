@@ -1131,7 +1131,7 @@ public final class ShadowNight {
         }
 
         boolean canBegin(Story story, int cut, int wanted) {
-            if ((cut >> wanted & 1) != 0 || !story.has(wanted)) {
+            if (!story.has(wanted) || (cut >> wanted & 1) != 0) {
                 return false;
             }
             open();
