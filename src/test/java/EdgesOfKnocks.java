@@ -153,6 +153,17 @@ final class EdgesOfKnocks {
         sure(0, "0", "1", "10");
         sure(0, "0", "", "", "", "", "", "", "00");
         sure(1, "0", "01", "011", "0111", "01111", "011111", "0111111", "01111111");
+        e.from(() -> Furnished.signs("0", "01", "10"));
+        e.gives("again: the same", x -> x.sure() + 10 * x.sure(), 0);
+        e.gives("without one of them it is", x -> x.sure() + 10 * x.knock(2, NONE) + x.sure(), 1);
+        e.from(() -> Furnished.signs("01010101", "0", "0101011"));
+        e.gives("rests of a sign that has none now are not looked at", x -> 10 * x.sure() + x.knock(0, NONE) + x.sure(), 11);
+        e.from(() -> {
+            ShadowNight x = Furnished.signs("0", "01");
+            Expect.lay(x, 0, 1, 0);
+            return x;
+        });
+        e.gives("what was ahead by knocks that a sign had before is gone", x -> x.sure() + x.knock(1, 0) + 10 * x.sure(), 13);
         e.promise(34, "(Two of the same knocks: 0; none: 1.)");
         sure(0, "10", "", "10");
         sure(0, "", "", "", "", "", "", "0", "0");

@@ -81,6 +81,11 @@ final class EdgesOfMoments {
         e.leaves("before, not more than 5: without HIDE 0", x -> x.seen(5, false), 1);
         e.leaves("before, more than 9", x -> x.seen(9, false), 1);
         e.leaves("before, not more than 10: without HIDE 1", x -> x.seen(10, false), 0);
+        moments(0, 1, 0, 0, 0);
+        e.leaves("the very first one, behind", x -> x.seen(0, true), 1);
+        e.leaves("before: HIDE 3 is TURNED alike", x -> x.seen(0, false), 0);
+        e.gives("the very first one, before", x -> x.drop(3) * x.seen(1, false), 1);
+        e.from(Furnished::fortyMoments);
         e.gives("a HIDE that is gone is none of the others", x -> x.drop(0) + 10 * x.seen(11, false), 11);
     }
 

@@ -279,11 +279,18 @@ final class EdgesOfNights {
         e.gives("without scenes", x -> x.best(), 0, 0);
         story("a1/b1");
         e.gives("a NEED that can't be met", x -> x.need(1, 1) == 1 ? x.best() : BAD, 2, 1);
+        story("a1/b2/Ab3!/a4!", 3, 0, 99);
+        e.gives("NEEDS met by two scenes, one behind the other", x -> x.need(2, 0) + x.need(2, 1) + 10 * x.best(), 2, 0);
+        e.gives("again: the same", x -> x.best() + 10 * x.best(), 0, 0);
+        story("4/6/3-5/2/1", 4, 0, 9);
+        e.gives("again, behind other calls", x -> x.best() + 100 * x.begins(0, 3) + 10000 * x.best(), 2 + 1300 + 20000, 6);
         e.promise(28, "NONE: none is GOOD.");
         story("2/1!", 1, 1, 1);
         e.leaves("2 or 0, never 1", x -> x.best(), NONE);
         story("2!/1!", 1, 0, 1);
         e.leaves("! stays", x -> x.best(), NONE);
+        story("2!/1!");
+        e.gives("behind a GOOD one", x -> x.best() + 10 * x.markScene(1, 0, 1) + x.best(), 10 + NONE, 0);
         story("1/1", 0, 1, 999);
         e.leaves("a night begins at 0", x -> x.best(), NONE);
         e.from(() -> {
@@ -311,6 +318,7 @@ final class EdgesOfNights {
         story("99/99/99/99/99/99/99/99/99/99/99/1");
         e.gives("as late as can be", x -> x.begins(0, 11), 1089, 1089);
         e.gives("all ahead cut", x -> x.begins(2047, 11), 0, 0);
+        e.gives("again, behind a later one", x -> x.begins(0, 11) + x.begins(0, 1), 1188, 99);
         e.gives("all behind cut", x -> x.begins(4094, 0), 0, 0);
         story("5-9/2", 1, 9, 999);
         e.gives("just the greatest", x -> x.begins(0, 1), 9, 9);
@@ -318,8 +326,31 @@ final class EdgesOfNights {
         e.gives("just the least", x -> x.begins(0, 1), 5, 5);
     }
 
+    /** Of scenes 1, 2, 3, 4 long: how long those ahead of one are together that stay. */
+    private static int lengthsAhead(int cut, int scene) {
+        int sum = 0;
+        for (int s = 0; s < scene; s++) {
+            sum += (cut & 1 << s) == 0 ? s + 1 : 0;
+        }
+        return sum;
+    }
+
     private void promise29BeginsNone() {
         e.promise(29, "NONE: never, or it is cut.");
+        story("1/2/3/4");
+        for (int s = 0; s < 4; s++) {
+            for (int cut = 0; cut < 16; cut++) {
+                int scene = s;
+                int set = cut;
+                int begin = lengthsAhead(cut, s);
+                boolean isCut = (cut & 1 << s) != 0;
+                if (isCut) {
+                    e.leaves("begins(" + cut + ", " + s + ")", x -> x.begins(set, scene), NONE);
+                } else {
+                    e.gives("begins(" + cut + ", " + s + ")", x -> x.begins(set, scene), begin, begin);
+                }
+            }
+        }
         story("5-9/2", 1, 10, 999);
         e.leaves("never: too early", x -> x.begins(0, 1), NONE);
         story("5-9/2", 1, 0, 4);
@@ -403,6 +434,9 @@ final class EdgesOfNights {
         e.gives("all", x -> x.tale(255), 1, 99);
         story("1/1/1/1/1/1/1/1/1/1/1/h99");
         e.gives("the last of twelve", x -> x.tale(128), 2048, 99);
+        e.gives("again, behind none wished", x -> x.tale(128) + x.tale(0) + x.tale(128), 4096, 99);
+        e.gives("none, behind NONE", x -> x.tale(1) + x.tale(0), NONE, 0);
+        e.gives("NONE behind one", x -> x.tale(128) + x.tale(1), 2048 + NONE, 99);
         e.promise(31, "NONE: not all are shown.");
         e.leaves("e", x -> x.tale(16), NONE);
         e.leaves("a and e", x -> x.tale(17), NONE);

@@ -34,6 +34,9 @@ final class EdgesOfOutlines {
         e.leaves("a HIDE that is far from all may come nearer", x -> x.matters(2), 0xFF00);
         e.from(() -> Furnished.outlines(0b0111, 0b0111));
         e.leaves("the least was 0: nothing is less", x -> x.matters(0), 0b0111);
+        // HIDES 1, 2 are 1 APART; HIDE 0 is 2 APART from HIDE 1 and just 1 without cell 1 or cell 2
+        e.from(() -> Furnished.outlines(0b0111, 0b0001, 0b1000_0001));
+        e.leaves("just as far APART as the least was", x -> x.matters(0), 0b0111);
     }
 
     private void promise36Apart() {

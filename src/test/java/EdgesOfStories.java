@@ -327,11 +327,35 @@ final class EdgesOfStories {
         e.gives("MARKS go: scene 0 can be cut", x -> x.story(0) > 0 ? x.good(1) : 0, 1);
         e.gives("NEEDS go: scene 4 can be cut", x -> x.story(0) > 0 ? x.good(16) : 0, 1);
         e.gives("asked() stays", x -> x.story(0), 6, -6);
+        e.promise(18, "(MARKS, NEEDS go)");
+        e.gives("nothing of THE STORY before the last one comes back", x -> toldAgain(x), 0);
         e.promise(18, "BAD");
         e.from(() -> reading("7"));
         e.range("story(v)", 0, 3, (x, t) -> x.story(t));
         e.promise(18, "NOTHING");
         e.finds(NOTHING, "story(3)", x -> x.story(3));
+    }
+
+    /** Whatever stood in a scene twice before must be gone: digest() of the same TEXT, told once and told again. */
+    private static long toldAgain(ShadowNight x) {
+        x.story(0);
+        long once = x.digest();
+        long before = once;
+        for (int again = 0; again < 4; again++) {
+            for (int s = 0; s < 4; s++) {
+                x.markScene(s, s, 9);
+            }
+            x.need(5, 0);
+            Expect.tell(x, "ABcdefgh7-9!/h7!/7!/7!/7!/7!/7!");
+            x.markScene(6, 0, 0);
+            x.need(0, 0);
+            if (again % 2 == 0) {
+                x.story(0);
+            }
+            Expect.tell(x, Furnished.STORY);
+            before = x.digest() == once ? before : x.digest();
+        }
+        return before - once;
     }
 
     private void promise18StoryRefused() {
@@ -399,6 +423,9 @@ final class EdgesOfStories {
         e.promise(21, "NONE.");
         third("ab1/AB1/cd1", NONE);
         third("1", NONE);
+        third(TWELVE, NONE);
+        e.gives("scenes of stories told before are not looked at", x -> Expect.tell(x, "1/abc1") + Expect.tell(x, "1/abc1")
+            + Expect.tell(x, "1") + x.third(), 5 + NONE);
         e.from(ShadowNight::new);
         e.leaves("without scenes", x -> x.third(), NONE);
     }
@@ -412,6 +439,9 @@ final class EdgesOfStories {
         takings("a1/1", 1, 0);
         takings("1", 0, NONE);
         takings(TWELVE, 0, NONE);
+        e.from(() -> Furnished.telling("a1/h1/h1"));
+        e.gives("again: the same", x -> x.takings() + 10 * x.takings(), 22, 7);
+        e.gives("none, behind some", x -> x.takings() + 10 * Expect.tell(x, "1") + x.takings(), 12, NONE);
         e.from(ShadowNight::new);
         e.gives("without scenes", x -> x.takings(), 0, NONE);
     }
