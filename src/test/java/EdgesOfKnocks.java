@@ -164,6 +164,11 @@ final class EdgesOfKnocks {
             return x;
         });
         e.gives("what was ahead by knocks that a sign had before is gone", x -> x.sure() + x.knock(1, 0) + 10 * x.sure(), 13);
+        // rows that two rows of signs give late, behind many ways to be ahead: 10101011 1101 01010 10101011 01000 is also
+        // 1010101 111 01010 1010101 01101000; 0000 00011000 100 00000001 0000 is also 00000001 100 010000 0000 010000
+        sure(0, "01000", "1010101", "01101000", "111", "1101", "01010", "10011000", "10101011");
+        sure(0, "00000001", "00010011", "100", "", "00011000", "0000010", "0000", "010000");
+        sure(0, "0100100", "1000000", "00010011", "110011", "0", "0000001", "", "101000");
         e.promise(34, "(Two of the same knocks: 0; none: 1.)");
         sure(0, "10", "", "10");
         sure(0, "", "", "", "", "", "", "0", "0");
